@@ -97,6 +97,7 @@ public final class CheckTest {
         due.same("an empty field on the first side", "", broken("f9<0;"));
         due.same("on the second side", "", broken("1<f9;"));
         due.same("in a divisor", "", broken("1/f9<0;"));
+        due.same("in a later rule's divisor", "2:0", broken("1<0;1=1;1/f9<0;"));
         due.same("next to a division by 0", "", broken("1/0<f19;"));
         due.same("next to one that has a value", "", broken("f1+f9<f1;"));
         due.same("no field at all", "2:0", broken("1<0;"));

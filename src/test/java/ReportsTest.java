@@ -51,6 +51,10 @@ public final class ReportsTest {
         due.unknown("the kind ahead of the room", () -> x.report(0, HIGH));
         due.unknown("no report 30", () -> x.reportAt(30, 0));
         due.answers("the last incident", 9_999, () -> x.reportAt(0, 0));
+        x.tick(1);
+        due.answers("the last of 30 late ones", 29, () -> x.late(0, 29));
+        due.answers("behind all 30", -1, () -> x.late(0, 30));
+        due.answers("none of 30 closed", 0, () -> x.count(0, LOW, HIGH));
     }
 
     private static void reportAt(Due due) {

@@ -112,6 +112,8 @@ public final class RuleTextTest {
         wrong(due, "1/012<1;", 3);
         wrong(due, "1<99999999999999999999;", 7);
         wrong(due, "f1 9<1;", 3);
+        wrong(due, "1:<1;", 1);
+        wrong(due, "f:<1;", 1);
     }
 
     private static void manyRules(Due due) {
